@@ -155,6 +155,8 @@ public final class PromisesTest {
         x.pair(0, 1, 2, OTHER);
         x.clear(0);
         Checks.due("4 possible again", x.possible(0), true);
+        Checks.due("4 no SAME pair", x.sure(0, 1, 2), false);
+        Checks.due("4 no OTHER pair", x.sure(1, 1, 2), false);
         x.clear(1);
         Checks.due("4 implies again", x.implies(), true);
         Checks.due("4 the state stays", x.count(), 2);
@@ -357,6 +359,12 @@ public final class PromisesTest {
         HeapClaims w = both(2, list(0, 1), list(0, 2), list(0, 1));
         w.pair(0, 1, 2, OTHER);
         Checks.due("10 the other list if it has cells", w.frame(), 2);
+        HeapClaims ring = both(1, cell(0, 1), list(0, 1));
+        Checks.due("10 left over in a ring alone", ring.frame(), HeapClaims.NONE);
+        ring.pair(0, 0, 1, OTHER);
+        Checks.due("10 no ring", ring.frame(), 0);
+        HeapClaims part = both(2, list(0, 1), list(1, 2), list(0, 2));
+        Checks.due("10 the end may lie inside", part.frame(), HeapClaims.NONE);
     }
 
     private static void give() {
@@ -431,6 +439,15 @@ public final class PromisesTest {
         v.give(0, 1);
         v.put(1, 0);
         Checks.due("13 each cell to one piece", v.holds(0), false);
+        HeapClaims w = told(0, cell(0, 1));
+        w.give(0, 1);
+        w.give(1, 2);
+        w.put(1, 3);
+        Checks.due("13 the cell's next is another", w.holds(0), false);
+        w.put(1, 2);
+        Checks.due("13 the cell's next is right", w.holds(0), true);
+        HeapClaims right = both(1, cell(0, 1), cell(0, 2));
+        Checks.due("8 the cell's next may be another", right.implies(), false);
         for (int no : NO_CLAIMS) {
             Checks.dueThrow("13 claim " + no, y, INDEX, () -> y.holds(no));
         }
