@@ -1,49 +1,87 @@
-/** Counts and prints the answers that are not due. */
+import java.util.function.Supplier;
+
+/** Counts and prints the answers that are not due, under the sentence of the document they break. */
 final class Checks {
     private static int wrong = 0;
     private static int made = 0;
+    private static int sentences = 0;
+    private static int madeBefore = 0;
+    private static String sentence = "";
 
     interface Call {
-        void run();
+        void on(HeapClaims x);
     }
 
     private Checks() {
     }
 
+    /** What is checked from here on is said by this sentence of the document. */
+    static void sentence(String where, String words) {
+        endOfSentence();
+        sentences++;
+        sentence = where + ", \"" + words + "\": ";
+    }
+
+    private static void endOfSentence() {
+        if (sentences > 0 && made == madeBefore) {
+            fail("nothing is checked");
+        }
+        madeBefore = made;
+    }
+
+    private static void fail(String words) {
+        wrong++;
+        System.out.println(sentence + words);
+    }
+
     static void due(String call, long got, long want) {
         made++;
         if (got != want) {
-            wrong++;
-            System.out.println(call + " answered " + got + ", due is " + want);
+            fail(call + " answered " + got + ", due is " + want);
         }
     }
 
     static void due(String call, boolean got, boolean want) {
-        due(call, got ? 1 : 0, want ? 1 : 0);
+        made++;
+        if (got != want) {
+            fail(call + " answered " + got + ", due is " + want);
+        }
     }
 
-    /** The exception must be of just this class; and what the object shows must be as before. */
-    static void dueThrow(String call, HeapClaims x, Class<?> want, Call run) {
+    static void due(String call, String got, String want) {
         made++;
-        String before = Look.at(x);
+        if (!got.equals(want)) {
+            fail(call + " answered " + got + ", due is " + want);
+        }
+    }
+
+    /**
+     * The call on what is made must throw an exception of just this class; and what it was called
+     * on must then show all that another one shows on which nothing was called.
+     */
+    static void dueThrow(String call, Supplier<HeapClaims> make, Class<?> want, Call refused) {
+        HeapClaims x = make.get();
+        made++;
         Class<?> got = null;
         try {
-            run.run();
+            refused.on(x);
         } catch (RuntimeException e) {
             got = e.getClass();
         }
         if (got != want) {
-            wrong++;
-            System.out.println(call + " threw " + got + ", due is " + want);
+            fail(call + " threw " + got + ", due is " + want);
         }
-        if (!before.equals(Look.at(x))) {
-            wrong++;
-            System.out.println(call + " threw and changed the object");
+        String before = Look.at(make.get());
+        String after = Look.at(x);
+        if (!before.equals(after)) {
+            fail(call + " threw and changed the object from" + before + " to" + after);
         }
     }
 
     static void end(String test) {
-        System.out.println(test + ": " + made + " answers, " + wrong + " not as due");
+        endOfSentence();
+        String of = sentences == 0 ? "" : sentences + " sentences, ";
+        System.out.println(test + ": " + of + made + " answers, " + wrong + " not as due");
         if (wrong != 0) {
             System.exit(1);
         }

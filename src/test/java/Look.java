@@ -1,4 +1,4 @@
-/** All that an object shows of itself, as a text to compare. */
+/** All that an object shows of itself, as a text to compare, in fewer than 120 calls. */
 final class Look {
     private Look() {
     }
@@ -9,11 +9,10 @@ final class Look {
             text.append(" pieces ").append(x.pieces(0)).append(" possible ").append(x.possible(0));
             text.append(" holds ").append(x.holds(0)).append(" implies ").append(x.implies());
             text.append(" frame ").append(x.frame());
-            for (int what = 0; what <= 2; what++) {
-                for (int a = 0; a <= 5; a++) {
-                    for (int b = 0; b <= 5; b++) {
-                        text.append(x.sure(what, a, b) ? '1' : '0');
-                    }
+            for (int a = 0; a <= 5; a++) {
+                text.append(x.sure(2, a, a) ? " c" : " -");
+                for (int b = 0; b < a; b++) {
+                    text.append(x.sure(0, a, b) ? '=' : x.sure(1, a, b) ? '!' : '-');
                 }
             }
             x.swap();
