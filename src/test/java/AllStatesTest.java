@@ -52,8 +52,8 @@ public final class AllStatesTest {
         left.tell(x, 0);
         right.tell(x, 1);
         String who = left + " / " + right + ": ";
-        boolean implies = follows(right, models);
-        int frame = frame(left, right, models);
+        boolean implies = Truths.follows(right, models);
+        int frame = Truths.frame(left, right, models);
         asked++;
         implied += implies && !models.isEmpty() ? 1 : 0;
         framed += frame > 0 ? 1 : 0;
@@ -65,48 +65,12 @@ public final class AllStatesTest {
                 for (int b = 0; b <= 5; b++) {
                     boolean looked = (a < variables || a == 5) && (b < variables || b == 5);
                     if (looked) {
-                        boolean want = sure(what, a, b, models);
+                        boolean want = Truths.sure(what, a, b, models);
                         Checks.due(who + "sure " + what + a + b, x.sure(what, a, b), want);
                     }
                 }
             }
         }
-    }
-
-    private static boolean follows(PlainClaim right, List<PlainClaim.State> models) {
-        for (PlainClaim.State s : models) {
-            if (!right.isTrueOf(s)) {
-                return false;
-            }
-        }
-        return true;
-    }
-
-    private static int frame(PlainClaim left, PlainClaim right, List<PlainClaim.State> models) {
-        for (int f = 0; f < 1 << left.pieces.size(); f++) {
-            List<PlainClaim.Piece> more = new ArrayList<>();
-            for (int place = 0; place < left.pieces.size(); place++) {
-                if ((f & 1 << place) != 0) {
-                    more.add(left.pieces.get(place));
-                }
-            }
-            if (follows(right.with(more), models)) {
-                return f;
-            }
-        }
-        return -1;
-    }
-
-    private static boolean sure(int what, int a, int b, List<PlainClaim.State> models) {
-        for (PlainClaim.State s : models) {
-            boolean equal = s.values()[a] == s.values()[b];
-            int v = s.values()[a];
-            boolean so = what == 0 ? equal : what == 1 ? !equal : v != 0 && s.nexts()[v] >= 0;
-            if (!so) {
-                return false;
-            }
-        }
-        return true;
     }
 
     /** Random states for random claims, and states made for the claim, so that many are true. */

@@ -15,6 +15,27 @@ final class Checks {
     private Checks() {
     }
 
+    /** Runs the tests one after the other; one that an exception ends does not keep the rest back. */
+    static void each(Runnable... tests) {
+        for (Runnable test : tests) {
+            try {
+                test.run();
+            } catch (RuntimeException e) {
+                made++;
+                fail("threw " + e + ", nothing is due to be thrown" + where(e));
+            }
+        }
+    }
+
+    private static String where(RuntimeException e) {
+        for (StackTraceElement line : e.getStackTrace()) {
+            if (line.getClassName().endsWith("Test")) {
+                return " at " + line;
+            }
+        }
+        return "";
+    }
+
     /** What is checked from here on is said by this sentence of the document. */
     static void sentence(String where, String words) {
         endOfSentence();

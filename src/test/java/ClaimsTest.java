@@ -1,27 +1,28 @@
 /** Promises 1 to 10, what is done and answered: each sentence by itself. RefusalsTest has the rest. */
 public final class ClaimsTest extends Samples {
     public static void main(String[] args) {
-        newObject();
-        pair();
-        pairItHasAlready();
-        piece();
-        place();
-        clear();
-        swap();
-        pieces();
-        possible();
-        implies();
-        sureWhenEqual();
-        sureWhenNot();
-        sureOfCell();
-        sureInAllStates();
-        sureWithAnyTerm();
-        frame();
-        leastFrame();
-        frameBits();
-        frameBeyondFive();
-        noFrame();
-        questionsChangeNothing();
+        Checks.each(
+                ClaimsTest::newObject,
+                ClaimsTest::pair,
+                ClaimsTest::pairItHasAlready,
+                ClaimsTest::piece,
+                ClaimsTest::place,
+                ClaimsTest::clear,
+                ClaimsTest::swap,
+                ClaimsTest::pieces,
+                ClaimsTest::possible,
+                ClaimsTest::implies,
+                ClaimsTest::sureWhenEqual,
+                ClaimsTest::sureWhenNot,
+                ClaimsTest::sureOfCell,
+                ClaimsTest::sureInAllStates,
+                ClaimsTest::sureWithAnyTerm,
+                ClaimsTest::frame,
+                ClaimsTest::leastFrame,
+                ClaimsTest::frameBits,
+                ClaimsTest::frameBeyondFive,
+                ClaimsTest::noFrame,
+                ClaimsTest::questionsChangeNothing);
         Checks.end("ClaimsTest");
     }
 
@@ -66,6 +67,20 @@ public final class ClaimsTest extends Samples {
         z.pair(1, 4, 3, OTHER);
         Checks.due("possible(1), SAME and OTHER", z.possible(1), false);
         Checks.due("pieces(1), pairs are no pieces", z.pieces(1), 0);
+        pairsOfOneTerm();
+    }
+
+    private static void pairsOfOneTerm() {
+        HeapClaims same = new HeapClaims();
+        HeapClaims other = new HeapClaims();
+        for (int b = 1; b <= 5; b++) {
+            same.pair(0, 0, b, SAME);
+            other.pair(0, 0, b, OTHER);
+        }
+        for (int b = 1; b <= 5; b++) {
+            Checks.due("sure(0, " + b + ", 0)", same.sure(0, b, 0), true);
+            Checks.due("sure(1, " + b + ", 0)", other.sure(1, b, 0), true);
+        }
     }
 
     private static void pairItHasAlready() {
@@ -74,14 +89,17 @@ public final class ClaimsTest extends Samples {
         x.pair(0, 3, NIL, SAME);
         x.pair(0, 4, 3, OTHER);
         String before = Look.at(x);
-        for (int i = 0; i < 50; i++) {
+        x.pair(0, 3, NIL, SAME);
+        x.pair(0, 4, 3, OTHER);
+        Checks.due("what shows, each pair twice", Look.at(x), before);
+        for (int i = 0; i < 21; i++) {
             x.pair(0, 3, NIL, SAME);
             x.pair(0, NIL, 3, SAME);
             x.pair(0, 4, 3, OTHER);
             x.pair(0, 3, 4, OTHER);
             x.pair(0, i % 6, i % 6, SAME);
         }
-        Checks.due("what shows", Look.at(x), before);
+        Checks.due("what shows, each pair many times", Look.at(x), before);
         x.clear(0);
         Checks.due("sure(0, 3, 5) after one clear", x.sure(0, 3, NIL), false);
         Checks.due("sure(1, 3, 4) after one clear", x.sure(1, 3, 4), false);

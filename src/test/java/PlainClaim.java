@@ -24,6 +24,12 @@ final class PlainClaim {
         return both;
     }
 
+    PlainClaim and(Pair more) {
+        PlainClaim both = with(List.of());
+        both.pairs.add(more);
+        return both;
+    }
+
     void tell(HeapClaims x, int claim) {
         for (Pair p : pairs) {
             x.pair(claim, p.a(), p.b(), p.other());

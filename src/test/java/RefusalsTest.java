@@ -3,11 +3,32 @@ import java.util.function.Supplier;
 /** Each sentence of the document by which a call throws; wrong inputs on both sides of each bound. */
 public final class RefusalsTest extends Samples {
     public static void main(String[] args) {
-        samplesAreWhatTheyAreFor();
-        refusedForClaims();
-        refusedForTheState();
-        firstNamedIsThrown();
-        changesNothing();
+        Checks.each(
+                RefusalsTest::samplesAreWhatTheyAreFor,
+                RefusalsTest::pairWithoutClaimOrTerm,
+                RefusalsTest::pieceWithoutClaimOrTerm,
+                RefusalsTest::pieceWhenThereAreFive,
+                RefusalsTest::clearWithoutClaim,
+                RefusalsTest::piecesWithoutClaim,
+                RefusalsTest::possibleWithoutClaim,
+                RefusalsTest::sureWithoutTerm,
+                RefusalsTest::sureOfNoneOfThese,
+                RefusalsTest::holdsWithoutClaim,
+                RefusalsTest::giveWithoutVariable,
+                RefusalsTest::giveOfNoValue,
+                RefusalsTest::putAtNoAddressOrOfNoValue,
+                RefusalsTest::copyWithoutVariableOrTerm,
+                RefusalsTest::loadWithoutVariables,
+                RefusalsTest::loadWithoutCell,
+                RefusalsTest::storeWithoutVariableOrTerm,
+                RefusalsTest::storeWithoutCell,
+                RefusalsTest::makeWithoutVariable,
+                RefusalsTest::makeWhenAllHaveOne,
+                RefusalsTest::dropWithoutVariable,
+                RefusalsTest::dropWithoutCell,
+                RefusalsTest::valueWithoutTerm,
+                RefusalsTest::firstNamedIsThrown,
+                RefusalsTest::changesNothing);
         Checks.end("RefusalsTest");
     }
 
@@ -27,34 +48,6 @@ public final class RefusalsTest extends Samples {
         for (Supplier<HeapClaims> sample : all()) {
             Checks.dueThrow(call, sample, due, run);
         }
-    }
-
-    private static void refusedForClaims() {
-        pairWithoutClaimOrTerm();
-        pieceWithoutClaimOrTerm();
-        pieceWhenThereAreFive();
-        clearWithoutClaim();
-        piecesWithoutClaim();
-        possibleWithoutClaim();
-        sureWithoutTerm();
-        sureOfNoneOfThese();
-        holdsWithoutClaim();
-    }
-
-    private static void refusedForTheState() {
-        giveWithoutVariable();
-        giveOfNoValue();
-        putAtNoAddressOrOfNoValue();
-        copyWithoutVariableOrTerm();
-        loadWithoutVariables();
-        loadWithoutCell();
-        storeWithoutVariableOrTerm();
-        storeWithoutCell();
-        makeWithoutVariable();
-        makeWhenAllHaveOne();
-        dropWithoutVariable();
-        dropWithoutCell();
-        valueWithoutTerm();
     }
 
     private static void pairWithoutClaimOrTerm() {

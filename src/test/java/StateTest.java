@@ -1,23 +1,24 @@
 /** Promises 11 to 21, what is done and answered: each sentence by itself. RefusalsTest has the rest. */
 public final class StateTest extends Samples {
     public static void main(String[] args) {
-        give();
-        putNew();
-        putAgain();
-        holds();
-        copy();
-        copyOfNil();
-        load();
-        store();
-        storeOfNil();
-        makeAddress();
-        makeCell();
-        drop();
-        value();
-        next();
-        nextOfNone();
-        count();
-        claimsStay();
+        Checks.each(
+                StateTest::give,
+                StateTest::putNew,
+                StateTest::putAgain,
+                StateTest::holds,
+                StateTest::copy,
+                StateTest::copyOfNil,
+                StateTest::load,
+                StateTest::store,
+                StateTest::storeOfNil,
+                StateTest::makeAddress,
+                StateTest::makeCell,
+                StateTest::drop,
+                StateTest::value,
+                StateTest::next,
+                StateTest::nextOfNone,
+                StateTest::count,
+                StateTest::claimsStay);
         Checks.end("StateTest");
     }
 

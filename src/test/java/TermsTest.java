@@ -1,28 +1,29 @@
 /** The document's words before the promises: each sentence that names a boundary, by itself. */
 public final class TermsTest extends Samples {
     public static void main(String[] args) {
-        callsUpTo512();
-        termsAndVariables();
-        addressesWithoutBound();
-        nilIsZero();
-        differentAddresses();
-        upToFivePieces();
-        samePairs();
-        otherPairs();
-        eachCellToOnePiece();
-        noneLeft();
-        justTheCell();
-        cellsNext();
-        listWithoutCells();
-        listOfOneCell();
-        listOfDifferentCells();
-        listFromItsStart();
-        listUpToItsEnd();
-        twoClaims();
-        emptyAtFirst();
-        impliesInAllStates();
-        stateAtHand();
-        stateAtFirst();
+        Checks.each(
+                TermsTest::callsUpTo512,
+                TermsTest::termsAndVariables,
+                TermsTest::addressesWithoutBound,
+                TermsTest::nilIsZero,
+                TermsTest::differentAddresses,
+                TermsTest::upToFivePieces,
+                TermsTest::samePairs,
+                TermsTest::otherPairs,
+                TermsTest::eachCellToOnePiece,
+                TermsTest::noneLeft,
+                TermsTest::justTheCell,
+                TermsTest::cellsNext,
+                TermsTest::listWithoutCells,
+                TermsTest::listOfOneCell,
+                TermsTest::listOfDifferentCells,
+                TermsTest::listFromItsStart,
+                TermsTest::listUpToItsEnd,
+                TermsTest::twoClaims,
+                TermsTest::emptyAtFirst,
+                TermsTest::impliesInAllStates,
+                TermsTest::stateAtHand,
+                TermsTest::stateAtFirst);
         Checks.end("TermsTest");
     }
 
