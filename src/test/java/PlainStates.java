@@ -61,8 +61,13 @@ final class PlainStates {
      * orders, or without them, and up to nameless cells in a row (1 or 2) before, between, behind.
      */
     static List<PlainClaim.State> of(PlainClaim claim, int nameless) {
+        return of(claim, 5, nameless);
+    }
+
+    /** Such states, but with variables from there on being 0. */
+    static List<PlainClaim.State> of(PlainClaim claim, int variables, int nameless) {
         List<PlainClaim.State> found = new ArrayList<>();
-        for (int[] values : partings(5)) {
+        for (int[] values : partings(variables)) {
             int[] nexts = new int[ROOM];
             Arrays.fill(nexts, -1);
             new Growth(claim, values, nameless, found).piece(0, nexts, 10);
